@@ -877,6 +877,7 @@ public final class SentencesTest {
         due("rows()", x.rows(), 10);
     }
 
+    /** More than 512 calls, as 3000 rows can't be had by fewer. */
     @Says(in = "Promise 4", words = "(one that has a number is told in any case).")
     private static void aKnownRowIsToldWhen3000AreThere() {
         NameNumbers x = withRows(3000);
